@@ -504,7 +504,7 @@ public final class LeatherRoom {
                     && piece.highY + dy <= highY;
         }
 
-        /** Whether this round shape and a round piece moved by (dx, dy) have inside points in common. */
+        /** Whether points are inside both this round shape and a round piece moved by (dx, dy). */
         boolean overlaps(Shape piece, int dx, int dy) {
             boolean boxesApart = piece.highX + dx <= lowX
                     || piece.lowX + dx >= highX
@@ -514,7 +514,7 @@ public final class LeatherRoom {
             return !boxesApart && !sideParts(piece, dx, dy) && !piece.sideParts(this, -dx, -dy);
         }
 
-        /** Whether some side of this round shape has nothing of another, moved, on its inner side. */
+        /** Whether some side of this round shape has no corner of another on its inner side. */
         boolean sideParts(Shape other, int dx, int dy) {
             for (int side = 0; side < size; side++) {
                 boolean outer = true;
@@ -528,7 +528,7 @@ public final class LeatherRoom {
             return false;
         }
 
-        /** Whether all points inside a round piece moved by (dx, dy) are inside this plain shape. */
+        /** Whether all that is inside a round piece moved by (dx, dy) is inside this plain shape. */
         boolean holds(Shape piece, int dx, int dy) {
             for (int side = 0; side < size; side++) {
                 if (sideCuts(side, piece, dx, dy)) {
@@ -584,7 +584,8 @@ public final class LeatherRoom {
                 int j = next(i);
                 boolean above = 3 * y[i] > thirdsY;
                 boolean nextAbove = 3 * y[j] > thirdsY;
-                int at = (x[j] - x[i]) * (thirdsY - 3 * y[i]) - (y[j] - y[i]) * (thirdsX - 3 * x[i]);
+                int at = (x[j] - x[i]) * (thirdsY - 3 * y[i])
+                        - (y[j] - y[i]) * (thirdsX - 3 * x[i]);
                 // The ray to the right meets this side if the point is left of it going upwards.
                 if (above != nextAbove && (nextAbove ? at > 0 : at < 0)) {
                     inside = !inside;
