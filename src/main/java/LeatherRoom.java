@@ -528,7 +528,7 @@ public final class LeatherRoom {
             return false;
         }
 
-        /** Whether all that is inside a round piece moved by (dx, dy) is inside this plain shape. */
+        /** Whether all points inside a round piece, moved by (dx, dy), are inside this shape. */
         boolean holds(Shape piece, int dx, int dy) {
             for (int side = 0; side < size; side++) {
                 if (sideCuts(side, piece, dx, dy)) {

@@ -1,6 +1,6 @@
 import java.util.Random;
 
-/** Runs of calls, the same ones each time, on the program and on SlowRoom: the answers are alike. */
+/** Runs of calls, the same each time, on the program and on SlowRoom: the answers are alike. */
 public final class AgainstSlowRoom {
     private static final int RUNS = 400;
     private static final int CALLS = 100;
@@ -57,7 +57,7 @@ public final class AgainstSlowRoom {
             case 5, 6, 7, 8 -> lay(kind);
             case 9, 10 -> put(kind, x, y, turn);
             case 11 -> touching(kind);
-            case 12 -> Check.same(name + "best " + kind, () -> slow.best(kind), () -> room.best(kind));
+            case 12 -> best(kind);
             case 13, 14 -> take(upTo(13) - 1);
             case 15 -> {
                 if (upTo(3) == 0) {
@@ -139,7 +139,9 @@ public final class AgainstSlowRoom {
         int x2 = x1 + 1 + upTo(10);
         int y1 = 3 + upTo(10);
         int y2 = y1 + 1 + upTo(10);
-        int[][] points = {{0, 0}, {30, 0}, {30, y2}, {x2, y2}, {x2, y1}, {x1, y1}, {x1, 30}, {0, 30}};
+        int[][] points = {
+            {0, 0}, {30, 0}, {30, y2}, {x2, y2}, {x2, y1}, {x1, y1}, {x1, 30}, {0, 30},
+        };
         for (int[] p : points) {
             corner(p[0], p[1]);
         }
@@ -152,7 +154,9 @@ public final class AgainstSlowRoom {
         for (int i = 0; i < n; i++) {
             double angle = start + way * 2 * Math.PI * i / n;
             double far = 6 + 9 * random.nextDouble();
-            corner((int) Math.round(15 + far * Math.cos(angle)), (int) Math.round(15 + far * Math.sin(angle)));
+            int x = (int) Math.round(15 + far * Math.cos(angle));
+            int y = (int) Math.round(15 + far * Math.sin(angle));
+            corner(x, y);
         }
     }
 
@@ -176,7 +180,7 @@ public final class AgainstSlowRoom {
             case 2 -> new int[][] {{0, 0}, {0, h}, {a, b}};
             case 3 -> new int[][] {{a, 0}, {w, b}, {w - a, h}, {0, h - b}};
             case 4 -> new int[][] {{a, 0}, {w, 0}, {w, h - b}, {w - a, h}, {0, h}, {0, b}};
-            default -> new int[][] {{upTo(w), upTo(h)}, {upTo(w), upTo(h)}, {upTo(w), upTo(h)}, {a, b}};
+            default -> new int[][] {{a, upTo(h)}, {upTo(w), b}, {upTo(w), upTo(h)}, {a, b}};
         };
         for (int[] p : points) {
             corner(p[0] + dx, p[1] + dy);
@@ -184,7 +188,8 @@ public final class AgainstSlowRoom {
     }
 
     private void corner(int x, int y) {
-        Check.same(name + "corner " + x + " " + y, () -> slow.corner(x, y), () -> room.corner(x, y));
+        Check.same(name + "corner " + x + " " + y,
+                () -> slow.corner(x, y), () -> room.corner(x, y));
     }
 
     private void zone(int grade) {
@@ -200,6 +205,10 @@ public final class AgainstSlowRoom {
         Check.same(name + "fits " + kind + " " + x + " " + y + " " + turn,
                 () -> slow.fits(kind, x, y, turn) ? 1 : 0,
                 () -> room.fits(kind, x, y, turn) ? 1 : 0);
+    }
+
+    private void best(int kind) {
+        Check.same(name + "best " + kind, () -> slow.best(kind), () -> room.best(kind));
     }
 
     private void lay(int kind) {
@@ -219,7 +228,8 @@ public final class AgainstSlowRoom {
     }
 
     private void part(int part, int what) {
-        Check.same(name + "part " + part + " " + what, () -> slow.part(part, what), () -> room.part(part, what));
+        Check.same(name + "part " + part + " " + what,
+                () -> slow.part(part, what), () -> room.part(part, what));
     }
 
     private int upTo(int most) {

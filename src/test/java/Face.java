@@ -54,14 +54,16 @@ public final class Face {
         for (Field f : LeatherRoom.class.getDeclaredFields()) {
             boolean keepsToItself = Modifier.isPrivate(f.getModifiers())
                     && (!Modifier.isStatic(f.getModifiers()) || Modifier.isFinal(f.getModifiers()));
-            Check.said("field " + f.getName() + " is private, and final if static", "true", "" + keepsToItself);
+            Check.said("field " + f.getName() + " is private, and final if static", "true",
+                    "" + keepsToItself);
         }
         Check.said("constructors", "[public LeatherRoom()]",
                 Arrays.toString(LeatherRoom.class.getDeclaredConstructors()));
         int modifiers = LeatherRoom.class.getModifiers();
         Check.said("class", "public final", Modifier.toString(modifiers));
         for (Class<?> inside : LeatherRoom.class.getDeclaredClasses()) {
-            Check.said(inside.getName() + " is static", "true", "" + Modifier.isStatic(inside.getModifiers()));
+            Check.said(inside.getName() + " is static", "true",
+                    "" + Modifier.isStatic(inside.getModifiers()));
         }
         Check.end();
     }

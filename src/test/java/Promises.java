@@ -5,7 +5,8 @@ public final class Promises {
     private static final Class<IllegalArgumentException> ARGUMENT = IllegalArgumentException.class;
     private static final Class<IllegalStateException> STATE = IllegalStateException.class;
     private static final Class<NoSuchElementException> ELEMENT = NoSuchElementException.class;
-    private static final Class<UnsupportedOperationException> OPERATION = UnsupportedOperationException.class;
+    private static final Class<UnsupportedOperationException> OPERATION =
+            UnsupportedOperationException.class;
 
     private static final int[] BIG = {0, 0, 30, 0, 30, 30, 0, 30};
     private static final int[] SQUARE = {0, 0, 1, 0, 1, 1, 0, 1};
@@ -117,7 +118,8 @@ public final class Promises {
         notPlain(room, "a corner twice", 5, 5, 0, 0, 10, 0, 5, 5, 10, 10, 0, 10);
         notPlain(room, "one point and one other", 3, 3, 3, 3, 7, 7);
         notPlain(room, "one point thrice", 3, 3, 3, 3, 3, 3);
-        notPlain(room, "sides that share a stretch", 0, 0, 9, 0, 9, 9, 3, 9, 3, 0, 6, 0, 6, 5, 0, 5);
+        notPlain(room, "sides that share a stretch",
+                0, 0, 9, 0, 9, 9, 3, 9, 3, 0, 6, 0, 6, 5, 0, 5);
         notPlain(room, "a star", 10, 0, 16, 18, 1, 7, 19, 7, 4, 18);
         Check.due("3 no hide came of these", 0, room::free);
     }
@@ -129,7 +131,9 @@ public final class Promises {
     private static void hideTakesWhatIsPlain() {
         LeatherRoom room = new LeatherRoom();
         plain(room, "a corner on a straight way", 200, 0, 0, 5, 0, 10, 0, 10, 10, 0, 10);
-        plain(room, "sides of one line apart", 136, 0, 0, 10, 0, 10, 10, 7, 10, 7, 2, 3, 2, 3, 10, 0, 10);
+        plain(room, "the same with the shortest sides", 8, 0, 0, 1, 0, 2, 0, 2, 2, 0, 2);
+        plain(room, "sides of one line apart", 136,
+                0, 0, 10, 0, 10, 10, 7, 10, 7, 2, 3, 2, 3, 10, 0, 10);
         plain(room, "nearly touching", 44, 0, 0, 10, 0, 10, 2, 5, 1, 9, 3, 0, 2);
         plain(room, "the whole lattice", 1800, BIG);
         plain(room, "a narrow one", 1, 0, 0, 30, 29, 29, 28);
@@ -269,7 +273,8 @@ public final class Promises {
         notKind(room, "y above 12", 1, 1, 5, 1, 1, 13);
         notKind(room, "all above 12", 20, 20, 21, 20, 20, 21);
         notKind(room, "a corner twice", 0, 0, 1, 0, 1, 1, 0, 1, 0, 1);
-        Check.due("6 none of these became one", 0, () -> kind(room, 1, 1, 0, 0, 12, 0, 12, 12, 0, 12));
+        Check.due("6 none of these became one", 0,
+                () -> kind(room, 1, 1, 0, 0, 12, 0, 12, 12, 0, 12));
     }
 
     private static void notKind(LeatherRoom room, String name, int... corners) {
@@ -286,7 +291,8 @@ public final class Promises {
         Check.refused("6 a seventh", STATE, () -> kind(room, 1, 1, SQUARE));
         Check.due("6 whose corners are gone", 1, () -> room.corner(0, 0));
         Check.refused("6 argument before state", ARGUMENT, () -> room.kind(1, 1));
-        Check.refused("6 coordinates before state", ARGUMENT, () -> kind(room, 1, 1, 1, 1, 13, 1, 1, 5));
+        Check.refused("6 coordinates before state", ARGUMENT,
+                () -> kind(room, 1, 1, 1, 1, 13, 1, 1, 5));
         Check.refused("6 grade before state", ARGUMENT, () -> room.kind(5, 1));
         Check.refused("6 there is no kind 6", ARGUMENT, () -> room.best(6));
         Check.due("6 there is a kind 5", 0, () -> room.best(5));
@@ -337,7 +343,8 @@ public final class Promises {
         Check.due("7 up to the cleft", 1, () -> fits(cleft, 1, 0, 0, 0));
         LeatherRoom straight = room(0, 0, 4, 0, 8, 0, 8, 4, 8, 8, 0, 8);
         kind(straight, 1, 1, 0, 0, 8, 0, 8, 8, 0, 8);
-        Check.due("7 the hide itself, with corners on straight ways", 1, () -> fits(straight, 0, 0, 0, 0));
+        Check.due("7 the hide itself, with corners on straight ways", 1,
+                () -> fits(straight, 0, 0, 0, 0));
         LeatherRoom two = room(0, 0, 4, 0, 4, 4, 8, 4, 8, 8, 0, 8);
         kind(two, 1, 1, 0, 0, 4, 0, 4, 4, 0, 4);
         Check.due("7 just the piece that is cut out", 0, () -> fits(two, 0, 4, 0, 0));
@@ -350,7 +357,8 @@ public final class Promises {
             kind(room, grade, 15, 0, 0, 2, 0, 2, 2, 0, 2);
         }
         for (int grade = 1; grade <= 3; grade++) {
-            zone(room, grade, 10 * grade - 10, 10, 10 * grade - 6, 10, 10 * grade - 6, 14, 10 * grade - 10, 14);
+            int x = 10 * grade - 10;
+            zone(room, grade, x, 10, x + 4, 10, x + 4, 14, x, 14);
         }
         for (int needed = 1; needed <= 4; needed++) {
             for (int grade = 1; grade <= 3; grade++) {
@@ -358,7 +366,8 @@ public final class Promises {
                 int x = 10 * grade - 10;
                 Check.due("7 grade " + needed + " in zone " + grade, grade < needed ? 0 : 1,
                         () -> fits(room, kind, x + 1, 11, 0));
-                Check.due("7 half in it", grade < needed ? 0 : 1, () -> fits(room, kind, x + 3, 13, 0));
+                Check.due("7 half in it", grade < needed ? 0 : 1,
+                        () -> fits(room, kind, x + 3, 13, 0));
                 Check.due("7 beside it", 1, () -> fits(room, kind, x + 4, 11, 0));
                 Check.due("7 above it", 1, () -> fits(room, kind, x + 1, 14, 0));
             }
@@ -399,13 +408,16 @@ public final class Promises {
             Check.due("7 its turn", turn % 2, () -> fits(room, 1, 0, 0, t));
         }
         // Each hide is the kind (0 0, 4 1, 1 2) in one turn, so it fits there in that turn alone.
-        int[][] hides = {{0, 0, 4, 1, 1, 2}, {2, 0, 1, 4, 0, 1}, {4, 2, 0, 1, 3, 0}, {0, 4, 1, 0, 2, 3}};
+        int[][] hides = {
+            {0, 0, 4, 1, 1, 2}, {2, 0, 1, 4, 0, 1}, {4, 2, 0, 1, 3, 0}, {0, 4, 1, 0, 2, 3},
+        };
         for (int right = 0; right < 4; right++) {
             LeatherRoom tight = room(hides[right]);
             kind(tight, 1, 15, 3, 5, 7, 6, 4, 7);
             for (int turn = 0; turn < 4; turn++) {
                 int t = turn;
-                Check.due("7 turn " + turn + " in " + right, turn == right ? 1 : 0, () -> fits(tight, 0, 0, 0, t));
+                Check.due("7 turn " + turn + " in " + right, turn == right ? 1 : 0,
+                        () -> fits(tight, 0, 0, 0, t));
             }
         }
     }
