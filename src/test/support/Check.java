@@ -42,7 +42,7 @@ final class Check {
         }
     }
 
-    private static String outcome(Call made) {
+    static String outcome(Call made) {
         try {
             return Long.toString(made.answer());
         } catch (RuntimeException e) {
