@@ -21,9 +21,11 @@ public final class BoundariesOfParts {
 
     public static void main(String[] args) {
         fitsTouchingTheHide();
+        fitsTouchingSlants();
         fitsTouchingBends();
         fitsTouchingZones();
         fitsTouchingParts();
+        fitsTouchingInAllTurns();
         fitsOnlyInItsTurns();
         fitsNoSuchKind();
         fitsNoSuchPoint();
@@ -65,14 +67,29 @@ public final class BoundariesOfParts {
         Check.due("7 the last point of all", 1, () -> Rooms.fits(all, 0, 18, 18, 0));
         Check.due("7 right of it", 0, () -> Rooms.fits(all, 0, 19, 18, 0));
         Check.due("7 above it", 0, () -> Rooms.fits(all, 0, 18, 19, 0));
-        LeatherRoom slant = Rooms.withHide(0, 0, 30, 0, 30, 29);
-        Rooms.kind(slant, 1, 1, Rooms.SQUARE);
-        Check.due("7 as near to a slant as can be", 1, () -> Rooms.fits(slant, 0, 29, 27, 0));
-        Check.due("7 as little beyond it as can be", 0, () -> Rooms.fits(slant, 0, 1, 0, 0));
-        LeatherRoom even = Rooms.withHide(0, 0, 30, 0, 30, 30);
-        Rooms.kind(even, 1, 1, Rooms.SQUARE);
-        Check.due("7 a corner on a slant", 1, () -> Rooms.fits(even, 0, 15, 14, 0));
-        Check.due("7 a corner beyond it", 0, () -> Rooms.fits(even, 0, 14, 14, 0));
+    }
+
+    /** "Whether a kind fits (rims may touch)": the hide's rim where it is slant. */
+    private static void fitsTouchingSlants() {
+        for (int[] hide : Rooms.everyStart(0, 0, 30, 0, 30, 29)) {
+            LeatherRoom room = Rooms.withHide(hide);
+            Rooms.kind(room, 1, 1, Rooms.SQUARE);
+            Check.due("7 as near to a slant as can be", 1, () -> Rooms.fits(room, 0, 29, 27, 0));
+            Check.due("7 as little beyond it as can be", 0, () -> Rooms.fits(room, 0, 1, 0, 0));
+        }
+        for (int[] hide : Rooms.everyStart(0, 0, 30, 0, 30, 30)) {
+            LeatherRoom room = Rooms.withHide(hide);
+            Rooms.kind(room, 1, 1, Rooms.SQUARE);
+            Check.due("7 a corner on a slant", 1, () -> Rooms.fits(room, 0, 15, 14, 0));
+            Check.due("7 a corner beyond it", 0, () -> Rooms.fits(room, 0, 14, 14, 0));
+        }
+        for (int[] hide : Rooms.everyStart(0, 13, 13, 0, 30, 0, 30, 30, 0, 30)) {
+            LeatherRoom room = Rooms.withHide(hide);
+            Rooms.kind(room, 1, 1, 3, 0, 4, 3, 0, 4);
+            Check.due("7 only the box goes beyond a slant", 1, () -> Rooms.fits(room, 0, 5, 5, 0));
+            Check.due("7 one to the left of that", 0, () -> Rooms.fits(room, 0, 4, 5, 0));
+            Check.due("7 one below that", 0, () -> Rooms.fits(room, 0, 5, 4, 0));
+        }
     }
 
     /** The least and most x and y where kind 0 fits, and one beyond each. */
@@ -172,6 +189,84 @@ public final class BoundariesOfParts {
         Check.due("7 just where it lies", 0, () -> Rooms.fits(slant, 0, 0, 0, 0));
         slant.take(0);
         Check.due("7 where one lay that is gone", 1, () -> Rooms.fits(slant, 0, 0, 0, 0));
+    }
+
+    /**
+     * "Whether a kind fits (rims may touch)": slants at the least distance from a corner of the
+     * hide, of a zone and of a part, in all turns of all of them.
+     */
+    private static void fitsTouchingInAllTurns() {
+        for (int t = 0; t < 4; t++) {
+            for (int[] thorn : Rooms.everyStart(
+                    0, 0, 30, 0, 30, 30, 16, 30, 15, 15, 14, 30, 0, 30)) {
+                Story hide = Rooms.offered(turned(t, thorn)).then(LeatherRoom::hide);
+                slantsAtCorner("a thorn of the hide", t, hide);
+            }
+            slantsAtCorner("a zone", t, zoneAtCorner(t));
+            slantsAtCorner("a part", t, partAtCorner(t));
+        }
+    }
+
+    private static Story zoneAtCorner(int t) {
+        return room -> {
+            Rooms.hide(room, Rooms.BIG);
+            Rooms.zone(room, 3, turned(t, 15, 15, 17, 15, 17, 17, 15, 17));
+        };
+    }
+
+    private static Story partAtCorner(int t) {
+        return room -> {
+            Rooms.hide(room, Rooms.BIG);
+            Rooms.kind(room, 1, 15, 0, 0, 2, 0, 2, 2, 0, 2);
+            int[] at = turnedPlace(t, 15, 15, 2, 2);
+            room.put(0, at[0], at[1], t);
+        };
+    }
+
+    /** Two slants, from each of their corners on, at the point (15, 15), or nearly so. */
+    private static void slantsAtCorner(String name, int t, Story obstacle) {
+        int[][] even = {{9, 9, 1}, {8, 9, 1}, {9, 8, 1}, {10, 9, 0}, {9, 10, 0}, {3, 15, 1},
+            {15, 3, 1}, {4, 15, 0}, {15, 4, 0}};
+        for (int[] kind : Rooms.everyStart(0, 0, 12, 0, 0, 12)) {
+            LeatherRoom room = obstacle.told();
+            int number = Rooms.kind(room, 4, 15, kind);
+            answersAt("7 even slant at " + name, t, room, number, 12, even);
+        }
+        int[][] uneven = {{4, 14, 1}, {14, 5, 0}, {3, 15, 1}, {15, 4, 1}, {4, 15, 0}, {15, 5, 0}};
+        for (int[] kind : Rooms.everyStart(0, 0, 12, 0, 0, 11)) {
+            LeatherRoom room = obstacle.told();
+            int number = Rooms.kind(room, 4, 15, kind);
+            answersAt("7 uneven slant at " + name, t, room, number, 11, uneven);
+        }
+    }
+
+    /** Whether a kind, 12 wide, fits at places that are turned with all else. */
+    private static void answersAt(String name, int t, LeatherRoom room, int kind, int height,
+            int[][] places) {
+        for (int[] p : places) {
+            int[] at = turnedPlace(t, p[0], p[1], 12, height);
+            Check.due(name + ", " + p[0] + " " + p[1] + " in turn " + t, p[2],
+                    () -> Rooms.fits(room, kind, at[0], at[1], t));
+        }
+    }
+
+    /** Corners after t turns of the whole lattice. */
+    private static int[] turned(int t, int... corners) {
+        int[] other = corners.clone();
+        for (int i = 0; i < t; i++) {
+            for (int k = 0; k < other.length; k += 2) {
+                int x = other[k];
+                other[k] = 30 - other[k + 1];
+                other[k + 1] = x;
+            }
+        }
+        return other;
+    }
+
+    /** Where a piece of a width and height is after t turns of the whole lattice. */
+    private static int[] turnedPlace(int t, int x, int y, int w, int h) {
+        int[] ends = turned(t, x, y, x + w, y + h);
+        return new int[] {Math.min(ends[0], ends[2]), Math.min(ends[1], ends[3])};
     }
 
     /** "(false for one that is not of its turns)". */

@@ -49,6 +49,7 @@ public final class BoundariesOfShapes {
         zoneSixth();
         zoneWithParts();
         clearZones();
+        zonesAfterClear();
         clearWithParts();
         kindGrades();
         kindTurns();
@@ -169,6 +170,8 @@ public final class BoundariesOfShapes {
         Story waits = Rooms.IN_USE.then(Rooms.offered(TWELVE));
         Refused.andAllStays("2 twelve wait", Rooms.STATE, waits, r -> r.corner(0, 0));
         Refused.andAllStays("2 twelve wait", Rooms.STATE, waits, r -> r.corner(30, 30));
+        Refused.andAllStays("2 no coordinate, and twelve wait", Rooms.ARGUMENT, waits,
+                r -> r.corner(31, 0));
     }
 
     /** "The corners that wait become the hide, in place of the one before". */
@@ -372,6 +375,25 @@ public final class BoundariesOfShapes {
         }
     }
 
+    /** "There are no zones any more": those that come then are as if they were the first. */
+    private static void zonesAfterClear() {
+        Story bare = room -> {
+            Rooms.hide(room, Rooms.BIG);
+            Rooms.kind(room, 3, 15, Rooms.TRIANGLE);
+            Rooms.kind(room, 2, 15, Rooms.SQUARE);
+        };
+        Story large = room -> {
+            for (int i = 0; i < 5; i++) {
+                Rooms.zone(room, 1, Rooms.BIG);
+            }
+        };
+        for (int[] zone : Rooms.everyStart(11, 3, 14, 5, 12, 9)) {
+            Story small = room -> Rooms.zone(room, 2, zone);
+            Probe.alike("5 clear, then a zone", bare.then(small),
+                    bare.then(large).then(LeatherRoom::clear).then(small));
+        }
+    }
+
     /** "Illegal state: some part lies there". */
     private static void clearWithParts() {
         Story waits = Rooms.offered(3, 3, 9, 4);
@@ -471,8 +493,8 @@ public final class BoundariesOfShapes {
     /** "or have a coordinate above 12". */
     private static void kindCoordinates() {
         int[][] bad = {{0, 0, 13, 0, 0, 5}, {0, 0, 5, 0, 0, 13}, {13, 0, 5, 5, 0, 0},
-            {0, 13, 0, 0, 5, 5}, {12, 12, 13, 12, 12, 11}, {13, 13, 14, 13, 13, 14},
-            {0, 0, 30, 0, 0, 30}};
+            {0, 13, 0, 0, 5, 5}, {12, 12, 13, 12, 12, 11}, {12, 12, 12, 13, 11, 12},
+            {13, 13, 14, 13, 13, 14}, {0, 0, 30, 0, 0, 30}};
         for (int[] corners : bad) {
             Refused.andCornersGo("6 above 12", Rooms.ARGUMENT, FURNISHED, room -> room.kind(1, 15),
                     corners);

@@ -80,6 +80,10 @@ public final class BoundariesOfTerms {
         notPlain("back along all of it", 0, 0, 10, 0, 0, 0, 0, 10);
         notPlain("back beyond its begin", 4, 0, 10, 0, 0, 0, 4, 8);
         notPlain("back on a slant", 0, 0, 9, 6, 6, 4, 0, 9);
+        plain("straight on, upright", 50, 5, 10, 5, 15, 5, 20, 0, 12);
+        notPlain("back upright", 5, 10, 5, 20, 5, 15, 0, 12);
+        plain("straight on, falling", 8 * 15, 10, 20, 14, 17, 18, 14, 18, 29);
+        notPlain("back, falling", 10, 20, 18, 14, 14, 17, 18, 29);
         plain("straight on, on a slant", 81, 0, 0, 6, 4, 9, 6, 0, 9);
         plain("a triangle of the least area", 1, 0, 0, 30, 29, 29, 28);
         notPlain("three in a line", 0, 0, 10, 10, 30, 30);
@@ -248,14 +252,16 @@ public final class BoundariesOfTerms {
     private static void turnsOfKinds() {
         int[] kind = {0, 0, 12, 3, 2, 7};
         int[][] turned = {kind, {7, 0, 4, 12, 0, 2}, {12, 7, 0, 4, 10, 0}, {0, 12, 3, 0, 7, 10}};
-        for (int in = 0; in < 4; in++) {
-            LeatherRoom room = Rooms.withHide(turned[in]);
-            Rooms.kind(room, 1, 15, kind);
-            Check.due("T the only place", 1024 * in, () -> room.best(0));
-            for (int t = 0; t < 4; t++) {
-                int turn = t;
-                Check.due("T turn " + turn + " in the hide of " + in, turn == in ? 1 : 0,
-                        () -> Rooms.fits(room, 0, 0, 0, turn));
+        for (int[] start : Rooms.everyStart(kind)) {
+            for (int in = 0; in < 4; in++) {
+                LeatherRoom room = Rooms.withHide(turned[in]);
+                Rooms.kind(room, 1, 15, start);
+                Check.due("T the only place", 1024 * in, () -> room.best(0));
+                for (int t = 0; t < 4; t++) {
+                    int turn = t;
+                    Check.due("T turn " + turn + " in the hide of " + in, turn == in ? 1 : 0,
+                            () -> Rooms.fits(room, 0, 0, 0, turn));
+                }
             }
         }
     }
@@ -264,19 +270,24 @@ public final class BoundariesOfTerms {
     private static void movedToLeast() {
         int[][] places = {{0, 0}, {1, 0}, {0, 1}, {9, 10}};
         for (int[] at : places) {
-            LeatherRoom room = Rooms.withHide(Rooms.BIG);
-            Rooms.kind(room, 1, 15, at[0], at[1], at[0] + 3, at[1], at[0] + 3, at[1] + 2,
-                    at[0], at[1] + 2);
-            for (int t = 0; t < 4; t++) {
-                int turn = t;
-                int w = t % 2 == 0 ? 3 : 2;
-                int h = 5 - w;
-                Check.due("T least x and y", 1, () -> Rooms.fits(room, 0, 0, 0, turn));
-                Check.due("T most", 1, () -> Rooms.fits(room, 0, 30 - w, 30 - h, turn));
-                Check.due("T x above", 0, () -> Rooms.fits(room, 0, 31 - w, 30 - h, turn));
-                Check.due("T y above", 0, () -> Rooms.fits(room, 0, 30 - w, 31 - h, turn));
+            int x = at[0];
+            int y = at[1];
+            for (int[] kind : Rooms.everyStart(x, y, x + 3, y, x + 3, y + 2, x, y + 2)) {
+                LeatherRoom room = Rooms.withHide(Rooms.BIG);
+                Rooms.kind(room, 1, 15, kind);
+                for (int turn = 0; turn < 4; turn++) {
+                    reachesTo(room, turn, turn % 2 == 0 ? 3 : 2, turn % 2 == 0 ? 2 : 3);
+                }
             }
         }
+    }
+
+    /** Kind 0 in a turn goes from 0 to the width and height, no less and no more. */
+    private static void reachesTo(LeatherRoom room, int turn, int w, int h) {
+        Check.due("T least x and y", 1, () -> Rooms.fits(room, 0, 0, 0, turn));
+        Check.due("T most", 1, () -> Rooms.fits(room, 0, 30 - w, 30 - h, turn));
+        Check.due("T x above", 0, () -> Rooms.fits(room, 0, 31 - w, 30 - h, turn));
+        Check.due("T y above", 0, () -> Rooms.fits(room, 0, 30 - w, 31 - h, turn));
     }
 
     /** "A PART, numbered by the least number 0 .. 11 that no other part has". */
