@@ -23,6 +23,7 @@ public final class BoundariesOfParts {
         fitsTouchingTheHide();
         fitsTouchingSlants();
         fitsTouchingBends();
+        fitsLevelWithCorners();
         fitsTouchingZones();
         fitsTouchingParts();
         fitsTouchingInAllTurns();
@@ -131,6 +132,31 @@ public final class BoundariesOfParts {
         Check.due("7 just what is cut out", 0, () -> Rooms.fits(bay, 0, 4, 0, 0));
         Check.due("7 just above what is cut out", 1, () -> Rooms.fits(bay, 0, 4, 4, 0));
         Check.due("7 just left of what is cut out", 1, () -> Rooms.fits(bay, 0, 0, 0, 0));
+    }
+
+    /** "all points inside the part .. are inside the hide": with the hide's corners on a level. */
+    private static void fitsLevelWithCorners() {
+        level("a corner to the right", 1, 12, 14, 15, 0, 30, 15, 15, 30, 0, 15);
+        level("a thorn from above", 1, 5, 14, 0, 0, 30, 0, 30, 30, 25, 30, 20, 15, 15, 30, 0, 30);
+        level("a thorn from below", 1, 5, 14, 0, 0, 15, 0, 20, 15, 25, 0, 30, 0, 30, 30, 0, 30);
+        level("a step down", 1, 5, 14, 0, 0, 30, 0, 30, 15, 20, 15, 20, 30, 0, 30);
+        level("a step up", 1, 5, 14, 0, 0, 20, 0, 20, 15, 30, 15, 30, 30, 0, 30);
+        level("a corner on a straight way", 1, 5, 14, 0, 0, 30, 0, 30, 15, 30, 30, 0, 30);
+        level("the same beyond a bay", 0, 12, 14,
+                0, 0, 30, 0, 30, 15, 30, 30, 25, 30, 25, 5, 5, 5, 5, 30, 0, 30);
+        level("a step beyond a bay", 0, 12, 14,
+                0, 0, 30, 0, 30, 15, 27, 15, 27, 30, 25, 30, 25, 5, 5, 5, 5, 30, 0, 30);
+        level("the bay's own corner", 0, 12, 14,
+                0, 0, 30, 0, 30, 30, 20, 30, 25, 15, 20, 5, 5, 5, 5, 30, 0, 30);
+    }
+
+    /** A triangle whose middle is one above its place, for the hide from each corner on. */
+    private static void level(String name, int want, int x, int y, int... corners) {
+        for (int[] hide : Rooms.everyStart(corners)) {
+            LeatherRoom room = Rooms.withHide(hide);
+            Rooms.kind(room, 1, 1, 0, 0, 3, 0, 0, 3);
+            Check.due("7 on a level with " + name, want, () -> Rooms.fits(room, 0, x, y, 0));
+        }
     }
 
     /** "Whether a kind fits (rims may touch)": a zone's rim. */
